@@ -760,13 +760,15 @@ public final class NestsByKnots {
         }
 
         private int leastHold(int then) {
-            int least = all == 0 ? 0 : Integer.MAX_VALUE;
+            // no HOLD is below 0, so none is NONE
+            int least = NONE;
             for (int strip = 0; strip < STRIPS; strip++) {
                 if (has(strip)) {
-                    least = Math.min(least, hold(strip, all, then));
+                    int hold = hold(strip, all, then);
+                    least = least == NONE ? hold : Math.min(least, hold);
                 }
             }
-            return least;
+            return Math.max(least, 0);
         }
 
         int hanging(int mask) {
@@ -801,7 +803,7 @@ public final class NestsByKnots {
         int takenByPull(int crossing, int strong) {
             int left = all;
             // each round but the last takes one at least
-            for (int round = 0; round <= STRIPS; round++) {
+            for (int round = 0; round < STRIPS; round++) {
                 int loose = looseAt(crossing, strong, left);
                 if (loose == 0) {
                     break;
@@ -1228,7 +1230,7 @@ public final class NestsByKnots {
         }
 
         private static boolean isSign(int b) {
-            return b > 0 && SIGNS.indexOf((char) b) >= 0;
+            return SIGNS.indexOf((char) (b & 255)) >= 0;
         }
 
         private static boolean isLetter(int b) {

@@ -140,13 +140,18 @@ public final class PullsTest {
         n.lay(0, 1, 9);
         // by three: 21, 21, 30; by two: 31, 40; the last: 10
         Due.is("14: the greatest in between", n.least(0, 0), 32);
-        // of like ones the least: 0 first, then 1 that rubs one less along the way
+        // of like ones the least: 0 and 2 hold 2, and then 2 alone 1; 0 would hold 10 without 2
+        NestsByKnots like = Due.ruled("rub 9*(strips<3)+1;next 0;take 0;");
+        like.lay(5, 12, 0);
+        like.lay(1, 2, 3);
+        like.lay(0, 511, 0);
+        Due.is("14: of like ones the least", like.least(5, 0), 3);
         NestsByKnots m = new NestsByKnots();
         m.lay(0, 2, 0);
         m.lay(0, 2, 0);
         m.lay(4, 11, 0);
         // 0 and 1: 1 + 2 * 3; 2: 6 + 2 * 3; then 1: 1 + 3; then 2: 6
-        Due.is("14: of like ones", m.least(0, 0), 8);
+        Due.is("14: the first holds most", m.least(0, 0), 8);
         NestsByKnots two = new NestsByKnots();
         two.lay(2, 3, 0);
         two.lay(0, 1, 2);

@@ -6,6 +6,7 @@ public final class TextsTest {
         promise9Worth();
         promise9Faults();
         promise9Tokens();
+        promise9Bytes();
         promise9Open();
         promise9Full();
         promise10();
@@ -173,6 +174,9 @@ public final class TextsTest {
         good("rub not(x)and not(y)or-x;next 0;take 0;");
         fault("rubx;", 0);
         fault("rub xy;", 4);
+        fault("rub xz;", 4);
+        fault("rub xa;", 4);
+        fault("rub zx;", 4);
         fault("rub stripsx;", 4);
         fault("rub strip;", 4);
         fault("rub a;", 4);
@@ -200,6 +204,23 @@ public final class TextsTest {
         fault("rub 0;;?", 6);
         // five digits that do not stand first are their NUMBER's first byte, too
         fault("rub   123456789;", 6);
+    }
+
+    /** Each byte behind an operand, where one is due, and behind the whole. */
+    private static void promise9Bytes() {
+        for (int b = 0; b < 256; b++) {
+            char sign = (char) b;
+            fault("rub 0" + sign, " \n;+-*<=0123456789".indexOf(sign) >= 0 ? 6 : 5);
+            fault("rub " + sign, " \n(-xy0123456789".indexOf(sign) >= 0 ? 5 : 4);
+            String whole = "rub 0;next 0;take 0;" + sign;
+            if (sign == ' ' || sign == '\n') {
+                good(whole);
+            } else {
+                fault(whole, 20);
+            }
+        }
+        fault("rub 0;next 0;take 0;12345", 20);
+        fault("rub 0;next 0;take 0;xy", 20);
     }
 
     private static void promise9Open() {
