@@ -206,12 +206,14 @@ public final class NestsByKnots {
         if (!isLong(many) || n < 0 || n > MOST_BUILT) {
             return BAD;
         }
-        int laid = 0;
-        while (laid < n && net.leastFree() != NONE) {
-            net.put(net.leastFree(), knotOf(0, 0), net.nextOf(many).where);
-            laid++;
+        for (int laid = 0; laid < n; laid++) {
+            int strip = net.leastFree();
+            if (strip == NONE) {
+                return laid;
+            }
+            net.put(strip, knotOf(0, 0), net.nextOf(many).where);
         }
-        return laid;
+        return n;
     }
 
     public int best(int kind, int number, int many, int what) {
@@ -960,20 +962,17 @@ public final class NestsByKnots {
             this.ends = ends;
         }
 
-        /** What a part comes to; the stack has room for as many as a tape has bytes. */
+        /** What a part comes to; what a Reader made never needs more of the stack than a tape has bytes. */
         int worth(int part, int[] names, int[] stack) {
             int top = 0;
             for (int i = part == 0 ? 0 : ends[part - 1]; i < ends[part]; i++) {
                 int sign = code[i];
-                if (sign >= 0) {
-                    stack[top] = sign;
+                if (sign >= -NAMES && top < stack.length) {
+                    stack[top] = sign >= 0 ? sign : names[-1 - sign];
                     top++;
-                } else if (sign >= -NAMES) {
-                    stack[top] = names[-1 - sign];
-                    top++;
-                } else if (sign == NOT || sign == MINUS_ONE) {
+                } else if ((sign == NOT || sign == MINUS_ONE) && top >= 1) {
                     stack[top - 1] = ofOne(sign, stack[top - 1]);
-                } else {
+                } else if (top >= 2) {
                     top--;
                     stack[top - 1] = ofTwo(sign, stack[top - 1], stack[top]);
                 }
