@@ -3,10 +3,12 @@ public final class PullsTest {
     public static void main(String[] args) {
         promise11();
         promise11Rounds();
+        promise11SixteenRounds();
         promise12();
         promise13();
         promise14();
         promise14Order();
+        promise14Sixteen();
         Due.end("PullsTest");
     }
 
@@ -55,6 +57,16 @@ public final class PullsTest {
         // strip 1 holds 3 + 5 * 3, strip 0 10 + 5 * 3
         Due.is("11: rubs along all of it", far.pull(4, 18, 0), 0);
         Due.is("11: the one", far.pull(4, 19, 0), 3);
+    }
+
+    private static void promise11SixteenRounds() {
+        // the oldest is as old as there are strips, and so are the next ones when it has come out
+        NestsByKnots n = Due.ruled("rub 99*(age<strips);next 0;take 0;");
+        for (int i = 0; i < 16; i++) {
+            n.lay(0, 1, 0);
+            n.hours(1);
+        }
+        Due.is("11: sixteen, one by one", n.pull(0, 2, 0), 65535);
     }
 
     private static void promise12() {
@@ -130,6 +142,16 @@ public final class PullsTest {
         Due.is("14: what -1", n.least(0, -1), NestsByKnots.BAD);
         Due.is("14: what 2", n.least(1, 2), NestsByKnots.BAD);
         Due.is("14: nothing is taken out", n.count(0), 3);
+    }
+
+    private static void promise14Sixteen() {
+        NestsByKnots n = Due.ruled("rub 0;next 0;take 0;");
+        for (int i = 0; i < 15; i++) {
+            n.lay(0, 1, 0);
+        }
+        n.lay(4, 1, 9);
+        Due.is("14: the sixteenth holds most", n.least(0, 0), 34);
+        Due.is("14: none is left", n.least(0, 1), 0);
     }
 
     private static void promise14Order() {
