@@ -1,8 +1,10 @@
 import java.util.Random;
 
-/** Runs of 512 calls with numbers drawn by a fixed seed: the program answers as the model does. */
+/** Runs of up to 512 calls with numbers drawn by a fixed seed: the program answers as the model does. */
 public final class AgainstModelTest {
-    private static final int RUNS = 50;
+    private static final int RUNS = 120;
+    // an object is used for so many calls; a turn of a run takes far fewer than what is left then
+    private static final int CALLS = 512, LEAST_LEFT = 60;
     private static final int ONE_TEXTS = 20000;
     private static final int[] EDGES = {Integer.MIN_VALUE, -100, -15, -2, -1, 0, 1, 2, 5, 6, 9, 10, 16, 24, 25, 40, 41, 99,
         100, 999, 1000, 9999, Integer.MAX_VALUE};
@@ -15,6 +17,7 @@ public final class AgainstModelTest {
     private final Model model = new Model();
     private final String name;
     private final int smooth;
+    private int calls = 0;
 
     private AgainstModelTest(int seed) {
         random = new Random(seed);
@@ -25,8 +28,8 @@ public final class AgainstModelTest {
     public static void main(String[] args) {
         for (int seed = 1; seed <= RUNS; seed++) {
             AgainstModelTest run = new AgainstModelTest(seed);
-            for (int call = 0; call < 512; call++) {
-                run.call(call);
+            while (run.calls <= CALLS - LEAST_LEFT) {
+                run.call(run.calls);
             }
         }
         for (int seed = 1; seed <= ONE_TEXTS; seed++) {
@@ -66,6 +69,7 @@ public final class AgainstModelTest {
     }
 
     private void due(String call, long got, long want) {
+        calls++;
         Due.is(name + call, got, want);
     }
 

@@ -1,21 +1,23 @@
 import com.sun.management.ThreadMXBean;
 import java.lang.management.ManagementFactory;
 
-/** What 512 calls make: little enough that all calls of a run have room beside one another. */
+/** What an object's calls make: little enough that all calls of a run have room beside one another. */
 public final class RoomTest {
     private static final ThreadMXBean THREADS = (ThreadMXBean) ManagementFactory.getThreadMXBean();
     private static final int CALLS = 26;
+    // each time up to two calls, beside those that fill the object
+    private static final int TIMES = 220;
 
     public static void main(String[] args) {
         for (int call = 0; call < CALLS; call++) {
             NestsByKnots nests = filled();
             long before = THREADS.getThreadAllocatedBytes(Thread.currentThread().getId());
-            for (int i = 0; i < 512; i++) {
+            for (int i = 0; i < TIMES; i++) {
                 one(nests, call, i);
             }
             long made = THREADS.getThreadAllocatedBytes(Thread.currentThread().getId()) - before;
             // some 16 small objects a call, which strips() may lay
-            Due.is("bytes made by 512 calls of " + call + " (" + made + ") are too many", made > 512 * 16 * 16 ? 1 : 0, 0);
+            Due.is("bytes made by " + TIMES + " calls of " + call + " (" + made + ") are too many", made > TIMES * 16 * 16 ? 1 : 0, 0);
         }
         Due.end("RoomTest");
     }
