@@ -185,8 +185,6 @@ public final class EdgesOfSheTest {
         Due.is("21: a third by the second", n.spare(), 2);
         n.lay(0, 2401, 0);
         Due.is("21: what falls ahead", n.spare(), 2 + 8);
-        n.lay(0, 2402, 0);
-        Due.is("21: one that is none", n.count(0), 4);
         n.lay(0, 1912, 0);
         Due.is("21: what lies on what falls", n.spare(), 2 + 8 + 16);
         n.lay(0, 1413, 0);

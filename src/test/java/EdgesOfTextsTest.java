@@ -18,6 +18,8 @@ public final class EdgesOfTextsTest {
         endedOnes();
         openThroughWhatTheyBelongTo();
         openOverParts();
+        upToTheLastByte();
+        gone();
         rubBounds();
         rubNames();
         nextNames();
@@ -167,6 +169,22 @@ public final class EdgesOfTextsTest {
                 }
             }
         }
+        for (String word : WORDS) {
+            if (!word.equals("or") && !word.equals("and")) {
+                fault("rub 0 " + word + " 0;", 6);
+                fault("rub (0) " + word + " 0;", 8);
+            }
+            if (!word.equals("rub")) {
+                fault(word + " 0;next 0;take 0;", 0);
+            }
+            if (!word.equals("next")) {
+                fault("rub 0;" + word + " 0;take 0;", 6);
+            }
+            if (!word.equals("take")) {
+                fault("rub 0;next 0;" + word + " 0;", 13);
+            }
+            fault("rub 0;next 0;take 0;" + word, 20);
+        }
         good("rub not 0;next (not 0);take not not 0 or not 0 and not 0;");
         fault("next 0;rub 0;take 0;", 0);
         fault("take 0;", 0);
@@ -256,6 +274,35 @@ public final class EdgesOfTextsTest {
         fault("rub 0);next 0;take 0;", 5);
         fault("rub 0;next ((0);take 0;", 15);
         fault("rub 0;next 0;take (((((0))));", 28);
+    }
+
+    /** A token may end with the 160th byte. */
+    private static void upToTheLastByte() {
+        String[] ends = {"9999", "x", "strips", "not", "(", "-", "0", "99999", "stripsx", ";", "?"};
+        int[] places = {160, 160, 160, 160, 160, 160, 160, 155, 153, 159, 159};
+        for (int i = 0; i < ends.length; i++) {
+            StringBuilder text = new StringBuilder("rub ");
+            while (text.length() + ends[i].length() < 160) {
+                text.append(' ');
+            }
+            fault(text.append(ends[i]).toString(), places[i]);
+        }
+    }
+
+    /** Nothing is left on the tape of what was read there, by a FAULT or as a TEXT. */
+    private static void gone() {
+        String[] ahead = {"9999999999999999999999999", "xxxxxxxxxxxxxxxxxxxxxxxxx", "                         ",
+            ";;;;;;;;;;;;;;;;;;;;;;;;;", "rub 0;next 0;take 0;     ", "\n\n\n\n\n\n\n\n\n\n\n\n\n\n\n\n"};
+        String[] texts = {"rub 1234", "rub x", "rub", "rub 1", "rub 0;next 0;take 0", "rub 0 "};
+        for (String old : ahead) {
+            for (String text : texts) {
+                NestsByKnots n = new NestsByKnots();
+                Due.text(n, old);
+                Due.is("9: the tape is empty", n.count(4), 0);
+                Due.is("9: \"" + text + "\" ends too early behind \"" + old + "\"", Due.text(n, text), -100 - text.length());
+                Due.is("9: \"" + old + "\" once more", Due.text(n, "rub 0;next 0;take 0;") > 0 ? 1 : 0, 1);
+            }
+        }
     }
 
     /** rub is 0 .. 99, else the bound: HOLD of a TUCK of NUMBER 0 that rubs one is 1, and rub. */
