@@ -163,7 +163,10 @@ public final class HostTest {
         Due.is("32: kind", n.told(1, 0), 5);
         Due.is("32: where", n.told(1, 1), 1213);
         Due.is("32: none", n.strips(0, 2, 0, 0), 0);
-        Due.is("32: none asked is nowhere outside", n.strips(0, 2, 12, 0), 0);
+        int[] anywhere = {0, 12, 13, -1, LEAST, MOST};
+        for (int from : anywhere) {
+            Due.is("32: none asked is nowhere outside, from " + from, n.strips(0, 2, from, 0), 0);
+        }
         n.cell(0, 4, 16);
         Due.is("32: others are left out", n.strips(0, 2, 3, 3), 2);
         Due.is("32: number 3", n.taken(2, 0), 3);

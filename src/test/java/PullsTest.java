@@ -3,11 +3,14 @@ public final class PullsTest {
     public static void main(String[] args) {
         promise11();
         promise11Rounds();
+        promise11AtOnce();
+        promise11ByWhatItCrossesThen();
         promise11SixteenRounds();
         promise12();
         promise13();
         promise14();
         promise14Order();
+        promise14LeastThen();
         promise14Sixteen();
         Due.end("PullsTest");
     }
@@ -57,6 +60,49 @@ public final class PullsTest {
         // strip 1 holds 3 + 5 * 3, strip 0 10 + 5 * 3
         Due.is("11: rubs along all of it", far.pull(4, 18, 0), 0);
         Due.is("11: the one", far.pull(4, 19, 0), 3);
+    }
+
+    /** All whose HOLD is less come out at once, though without one of them another one would hold more. */
+    private static void promise11AtOnce() {
+        NestsByKnots n = Due.ruled("rub 9*(strips<3);next 0;take 0;");
+        n.lay(0, 1, 0);
+        n.lay(0, 1, 0);
+        n.lay(4, 1, 9);
+        // by three nothing is added by a rub: 1, 1, 33; by two 9
+        Due.is("11: both at once", n.pull(0, 2, 0), 3);
+        Due.is("11: both come out", n.pull(0, 2, 1), 3);
+        Due.is("14: one by one the other holds more, and the last most", n.least(0, 0), 34);
+        Due.is("12: both are gone", n.pulled(0, 2), 2);
+        Due.is("12: the third stays", n.at(0), 4);
+        // strip 2 holds 3 as long as four are there, and 3 + 18 when strip 0 has come out
+        NestsByKnots m = Due.ruled("rub 9*(strips<4);next 0;take 0;");
+        m.lay(0, 1, 0);
+        m.lay(0, 101, 0);
+        m.lay(1, 2, 0);
+        m.lay(4, 1, 9);
+        Due.is("11: too strong then", m.pull(0, 3, 0), 1);
+        Due.is("11: as long as four are there", m.pull(0, 4, 0), 5);
+        Due.is("11: what lies elsewhere stays", m.pull(1, 2, 0), 2);
+    }
+
+    /** What has come out is crossed no more: the rule's cross is less then. */
+    private static void promise11ByWhatItCrossesThen() {
+        NestsByKnots n = Due.ruled("rub cross;next 0;take 0;");
+        n.lay(0, 1, 0);
+        n.lay(0, 1, 1);
+        n.lay(0, 1, 9);
+        // by two that each crosses: 1 + 2, 2 + 2, 10 + 2; then by one: 2 + 1, 10 + 1; then 10
+        Due.is("11: none", n.pull(0, 3, 0), 0);
+        Due.is("11: one, and another one then", n.pull(0, 4, 0), 3);
+        Due.is("11: and the last one", n.pull(0, 11, 0), 7);
+        NestsByKnots m = Due.ruled("rub 5-cross;next 0;take 0;");
+        for (int i = 0; i < 3; i++) {
+            m.lay(0, 1, 0);
+        }
+        // 1 + 3, then 1 + 4, then 1
+        Due.is("14: by what it crosses then", m.least(0, 0), 6);
+        Due.is("11: all three hold by 3", m.pull(0, 4, 0), 0);
+        Due.is("11: all at once", m.pull(0, 5, 0), 7);
     }
 
     private static void promise11SixteenRounds() {
@@ -142,6 +188,18 @@ public final class PullsTest {
         Due.is("14: what -1", n.least(0, -1), NestsByKnots.BAD);
         Due.is("14: what 2", n.least(1, 2), NestsByKnots.BAD);
         Due.is("14: nothing is taken out", n.count(0), 3);
+    }
+
+    /** Each time the one whose HOLD is least then, though another one's was less ahead. */
+    private static void promise14LeastThen() {
+        NestsByKnots n = Due.ruled("rub 9*(strips<4);next 0;take 0;");
+        n.lay(0, 1, 0);
+        n.lay(0, 1, 2);
+        n.lay(0, 2, 1);
+        n.lay(0, 101, 0);
+        // by four: 1, 3, 2; then 3 + 9 and 2 + 18, for strip 2 rubs strip 3, too; then 2 + 9
+        Due.is("14: strip 1 goes ahead of strip 2", n.least(0, 0), 13);
+        Due.is("14: one is left", n.least(0, 1), 1);
     }
 
     private static void promise14Sixteen() {

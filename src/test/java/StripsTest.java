@@ -2,6 +2,7 @@
 public final class StripsTest {
     public static void main(String[] args) {
         promise1();
+        promise1Apart();
         promise2Order();
         promise2Places();
         promise2Full();
@@ -32,6 +33,29 @@ public final class StripsTest {
         for (int sheet = 0; sheet < 4; sheet++) {
             Due.is("1: cell(" + sheet + ", 0, 0)", n.cell(sheet, 0, 0), -11);
         }
+    }
+
+    /** What is done with one object is not seen in another, made ahead of it or behind it. */
+    private static void promise1Apart() {
+        NestsByKnots ahead = new NestsByKnots();
+        NestsByKnots full = Scenes.full();
+        NestsByKnots behind = new NestsByKnots();
+        NestsByKnots[] others = {ahead, behind};
+        for (NestsByKnots n : others) {
+            Due.is("1: strips", n.count(0), 0);
+            Due.is("1: hour", n.count(1), 0);
+            Due.is("1: green", n.count(2), 48);
+            Due.is("1: texts", n.count(3), 1);
+            Due.is("1: the tape", n.count(4), 0);
+            Due.is("1: the rule", n.count(5), 0);
+            Due.is("1: next by it", n.good(2001), -4);
+            Due.is("1: no image", n.back(), NestsByKnots.STATE);
+            Due.is("1: no sheet", n.cell(0, 0, 1), -11);
+            Due.is("1: the first strip", n.lay(2, 12, 9), 0);
+        }
+        ahead.out(0);
+        Due.is("1: one lies still in the other", behind.at(0), 1);
+        Due.is("1: sixteen in the full one", full.count(0), 16);
     }
 
     private static void promise2Order() {
